@@ -1,0 +1,89 @@
+import java.lang.reflect.Constructor;
+import java.lang.reflect.Field;
+import java.lang.reflect.Method;
+import java.lang.reflect.Modifier;
+import java.util.Arrays;
+import java.util.TreeSet;
+
+/** The class has the document's face and no other, and its calls make no objects. */
+public final class FaceTests {
+    private static final String[] FACE = {
+        "int clear()", "int source()", "int filter(int,long,long)", "int map(int,int,int)", "int fold(int,int,int)",
+        "int join(int,int,int)", "int merge(int,int)", "int best(int,int)", "int look(int,int)",
+        "int put(int,int,long)", "int remove(int,int)", "int begin()", "int end()", "int drop()", "int told()",
+        "int change(int,int,int)", "long value(int,int,int)", "int logged()", "int forget()", "int net(int,int,int)",
+        "int copy(int,int)", "int take(int,int,long,long)", "int same(int)", "int has(int,int)", "long at(int,int)",
+        "int of(int,int)", "int count(int)", "int NONE", "int BAD", "int FULL", "int NO", "ChangeRows()"};
+
+    private static int wrong = 0;
+
+    public static void main(String[] args) {
+        TreeSet<String> found = new TreeSet<>();
+        for (Method m : ChangeRows.class.getDeclaredMethods()) {
+            String shown = m.getReturnType() + " " + m.getName() + list(m.getParameterTypes());
+            note(found, m.getModifiers(), Modifier.PUBLIC, shown);
+        }
+        for (Field f : ChangeRows.class.getDeclaredFields()) {
+            note(found, f.getModifiers(), Modifier.PUBLIC | Modifier.STATIC | Modifier.FINAL, f.getType() + " " + f.getName());
+        }
+        for (Constructor<?> c : ChangeRows.class.getDeclaredConstructors()) {
+            note(found, c.getModifiers(), Modifier.PUBLIC, c.getName() + list(c.getParameterTypes()));
+        }
+        TreeSet<String> due = new TreeSet<>(Arrays.asList(FACE));
+        check("the face is " + found + ", due is " + due, found.equals(due));
+        int kind = ChangeRows.class.getModifiers();
+        check("the class is not public and final", Modifier.isPublic(kind) && Modifier.isFinal(kind));
+        callsMakeNothing();
+        System.out.println(wrong == 0 ? "the face is as due" : wrong + " faults");
+        if (wrong != 0) {
+            System.exit(1);
+        }
+    }
+
+    private static void note(TreeSet<String> found, int modifiers, int due, String shown) {
+        if (!Modifier.isPrivate(modifiers)) {
+            found.add(shown);
+            check(shown + " has other modifiers", modifiers == due);
+        }
+    }
+
+    private static String list(Class<?>[] types) {
+        StringBuilder shown = new StringBuilder("(");
+        for (Class<?> type : types) {
+            shown.append(shown.length() == 1 ? "" : ",").append(type.getName());
+        }
+        return shown.append(")").toString();
+    }
+
+    private static void callsMakeNothing() {
+        if (!(java.lang.management.ManagementFactory.getThreadMXBean() instanceof com.sun.management.ThreadMXBean bean)) {
+            return;
+        }
+        long before = 0;
+        for (int round = 0; round < 2; round++) {
+            ChangeRows x = new ChangeRows();
+            x.source();
+            for (int t = 1; t < 12; t++) {
+                x.best(t - 1, 33);
+            }
+            before = bean.getCurrentThreadAllocatedBytes();
+            for (int i = 0; i < 100; i++) {
+                x.put(0, i % 64, i);
+                x.net(11, 0, x.logged());
+                x.copy(11, x.logged());
+                x.forget();
+                x.clear();
+                x.source();
+                x.look(0, 0);
+            }
+        }
+        check("700 calls made objects", bean.getCurrentThreadAllocatedBytes() - before < 2000);
+    }
+
+    private static void check(String fault, boolean holds) {
+        if (!holds) {
+            wrong++;
+            System.out.println(fault);
+        }
+    }
+}

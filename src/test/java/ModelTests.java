@@ -1,0 +1,479 @@
+import java.util.ArrayList;
+import java.util.Comparator;
+import java.util.List;
+import java.util.Map;
+import java.util.Random;
+import java.util.TreeMap;
+
+/** Long runs of calls, right and wrong ones, against a model that makes every table anew each time. */
+public final class ModelTests {
+    private static final int RUNS = 3000, CALLS = 512;
+    private static final int NONE = -1, BAD = -2, FULL = -3, NO = -4;
+
+    private static int wrong = 0;
+
+    public static void main(String[] args) {
+        for (int seed = 0; seed < RUNS && wrong < 20; seed++) {
+            new Run(seed).go();
+        }
+        System.out.println(wrong == 0 ? RUNS + " runs are as the model's" : wrong + " answers are not the model's");
+        if (wrong != 0) {
+            System.exit(1);
+        }
+    }
+
+    private record Change(int table, int sort, int key, long old, long now) { }
+
+    private record Def(int sort, int t, int u, long p, long q) { }
+
+    private record Step(int table, int key, Long value) { }
+
+    private static final class Model {
+        List<Def> defs = new ArrayList<>();
+        List<TreeMap<Integer, Long>> rows = new ArrayList<>();
+        /* places.get(n).get(t): the rows of t behind the first n changes. */
+        List<List<TreeMap<Integer, Long>>> places = new ArrayList<>(List.of(new ArrayList<>()));
+        List<Change> log = new ArrayList<>();
+        List<Change> told = new ArrayList<>();
+        List<Change> net = new ArrayList<>();
+        TreeMap<Integer, Long> copy = new TreeMap<>();
+        List<Step> batch = null;
+
+        boolean table(int t) {
+            return t >= 0 && t < defs.size();
+        }
+
+        int make(boolean good, Def def) {
+            if (!good || def.sort != 0 && !table(def.t) || def.u != NONE && !table(def.u)) {
+                return BAD;
+            }
+            if (batch != null) {
+                return NO;
+            }
+            if (defs.size() == 12) {
+                return FULL;
+            }
+            defs.add(def);
+            rows.add(def.sort == 0 ? new TreeMap<>() : derived(def, rows));
+            for (List<TreeMap<Integer, Long>> place : places) {
+                place.add(rows.get(rows.size() - 1));
+            }
+            return defs.size() - 1;
+        }
+
+        static TreeMap<Integer, Long> derived(Def def, List<TreeMap<Integer, Long>> all) {
+            TreeMap<Integer, Long> t = all.get(def.t);
+            TreeMap<Integer, Long> u = def.u == NONE ? null : all.get(def.u);
+            TreeMap<Integer, Long> out = new TreeMap<>();
+            if (def.sort == 3) {
+                for (int k = 0; k < def.q; k++) {
+                    fold(def, k, t, out);
+                }
+            } else if (def.sort == 6) {
+                List<Map.Entry<Integer, Long>> sorted = new ArrayList<>(t.entrySet());
+                sorted.sort(Map.Entry.<Integer, Long>comparingByValue(Comparator.reverseOrder())
+                    .thenComparing(Map.Entry.comparingByKey()));
+                sorted.stream().limit(def.p).forEach(e -> out.put(e.getKey(), e.getValue()));
+            } else {
+                t.forEach((key, v) -> {
+                    Long made = single(def, key, v, u);
+                    if (made != null) {
+                        out.put(key, made);
+                    }
+                });
+                if (def.sort == 5) {
+                    u.forEach(out::putIfAbsent);
+                }
+            }
+            return out;
+        }
+
+        static Long single(Def def, int key, long v, TreeMap<Integer, Long> u) {
+            switch (def.sort) {
+                case 1: return v < def.p || v > def.q ? null : v;
+                case 2: return def.p * v + def.q;
+                case 4: return u.containsKey(key) ? Long.valueOf(v + u.get(key)) : def.p == 1 ? v : null;
+                case 5: return v;
+                default: return u.get((int) Math.floorMod(v, 64L));
+            }
+        }
+
+        static void fold(Def def, int k, TreeMap<Integer, Long> t, TreeMap<Integer, Long> out) {
+            List<Integer> keys = t.keySet().stream().filter(key -> key % def.q == k).toList();
+            if (keys.isEmpty()) {
+                return;
+            }
+            List<Long> values = keys.stream().map(t::get).sorted().toList();
+            long sum = values.stream().mapToLong(v -> v).sum();
+            long[] folded = {keys.size(), sum, values.get(0), values.get(values.size() - 1), keys.get(keys.size() - 1)};
+            out.put(k, folded[(int) def.p]);
+        }
+
+        static List<Change> steps(int table, TreeMap<Integer, Long> from, TreeMap<Integer, Long> to) {
+            List<Change> list = new ArrayList<>();
+            for (int key = 0; key < 64; key++) {
+                Long a = from.get(key);
+                Long b = to.get(key);
+                if (a == null && b != null) {
+                    list.add(new Change(table, 0, key, 0, b));
+                } else if (a != null && b == null) {
+                    list.add(new Change(table, 2, key, a, 0));
+                } else if (a != null && !a.equals(b)) {
+                    list.add(new Change(table, 1, key, a, b));
+                }
+            }
+            return list;
+        }
+
+        int alter(int t, int key, Long value) {
+            if (!table(t) || defs.get(t).sort != 0 || key < 0 || key > 63) {
+                return BAD;
+            }
+            if (batch == null) {
+                return apply(List.of(new Step(t, key, value)));
+            }
+            if (batch.size() == 40) {
+                return FULL;
+            }
+            batch.add(new Step(t, key, value));
+            return batch.size();
+        }
+
+        int apply(List<Step> made) {
+            List<TreeMap<Integer, Long>> next = new ArrayList<>();
+            List<Change> all = new ArrayList<>();
+            for (int t = 0; t < defs.size(); t++) {
+                TreeMap<Integer, Long> its = new TreeMap<>(rows.get(t));
+                for (Step step : made) {
+                    if (step.table == t && step.value != null) {
+                        its.put(step.key, step.value);
+                    } else if (step.table == t) {
+                        its.remove(step.key);
+                    }
+                }
+                next.add(defs.get(t).sort == 0 ? its : derived(defs.get(t), next));
+                all.addAll(steps(t, rows.get(t), next.get(t)));
+            }
+            if (log.size() + all.size() > 1500) {
+                return FULL;
+            }
+            rows = next;
+            told = all;
+            for (Change c : all) {
+                log.add(c);
+                List<TreeMap<Integer, Long>> place = new ArrayList<>(places.get(places.size() - 1));
+                TreeMap<Integer, Long> its = new TreeMap<>(place.get(c.table));
+                if (c.sort == 2) {
+                    its.remove(c.key);
+                } else {
+                    its.put(c.key, c.now);
+                }
+                place.set(c.table, its);
+                places.add(place);
+            }
+            return all.size();
+        }
+
+        int end() {
+            if (batch == null) {
+                return NO;
+            }
+            int changes = apply(batch);
+            if (changes != FULL) {
+                batch = null;
+            }
+            return changes;
+        }
+
+        int drop() {
+            if (batch == null) {
+                return NO;
+            }
+            int gathered = batch.size();
+            batch = null;
+            return gathered;
+        }
+
+        int forget() {
+            int had = log.size();
+            log = new ArrayList<>();
+            places = new ArrayList<>(List.of(new ArrayList<>(rows)));
+            return had;
+        }
+
+        int net(int t, int from, int to) {
+            if (!table(t) || from < 0 || from > to || to > log.size()) {
+                return BAD;
+            }
+            net = steps(t, places.get(from).get(t), places.get(to).get(t));
+            return net.size();
+        }
+
+        int copy(int t, int n) {
+            if (!table(t) || n < 0 || n > log.size()) {
+                return BAD;
+            }
+            copy = new TreeMap<>(places.get(n).get(t));
+            return copy.size();
+        }
+
+        int take(int sort, int key, long old, long now) {
+            if (sort < 0 || sort > 2 || key < 0 || key > 63) {
+                return BAD;
+            }
+            if (sort == 0 && copy.containsKey(key)) {
+                return 1;
+            }
+            if (sort != 0 && !copy.containsKey(key)) {
+                return 2;
+            }
+            if (sort != 0 && copy.get(key) != old) {
+                return 3;
+            }
+            if (sort == 2) {
+                copy.remove(key);
+            } else {
+                copy.put(key, now);
+            }
+            return 0;
+        }
+
+        Change at(int where, int i) {
+            List<Change> list = where == 0 ? told : where == 1 ? log : where == 2 ? net : List.of();
+            return i < 0 || i >= list.size() ? null : list.get(i);
+        }
+
+        int change(int where, int i, int what) {
+            Change c = at(where, i);
+            return c == null || what < 0 || what > 2 ? BAD : what == 0 ? c.table : what == 1 ? c.sort : c.key;
+        }
+
+        long value(int where, int i, int which) {
+            Change c = at(where, i);
+            return c == null ? 0 : which == 0 ? c.old : which == 1 ? c.now : 0;
+        }
+
+        int of(int t, int what) {
+            if (!table(t) || what < 0 || what > 3) {
+                return BAD;
+            }
+            Def def = defs.get(t);
+            return new int[] {def.sort, def.t, def.u, rows.get(t).size()}[what];
+        }
+    }
+
+    /** One object and its model, with calls from one seed. */
+    private static final class Run {
+        final int seed;
+        final Random random;
+        final int spread;
+        final int tables;
+        final int keys;
+        ChangeRows x = new ChangeRows();
+        Model m = new Model();
+
+        Run(int seed) {
+            this.seed = seed;
+            random = new Random(seed);
+            spread = 1 + random.nextInt(100);
+            tables = random.nextInt(40);
+            keys = random.nextInt(4) == 0 ? 6 : 64;
+        }
+
+        void go() {
+            for (int i = 0; i < CALLS && wrong < 20; i++) {
+                int kind = random.nextInt(100);
+                if (kind < tables || m.defs.isEmpty() && kind < 90) {
+                    makeTable();
+                } else if (kind < 80) {
+                    alter();
+                } else {
+                    ask();
+                }
+                compare(i);
+            }
+        }
+
+        void due(String call, long got, long want) {
+            if (got != want) {
+                wrong++;
+                System.out.println("seed " + seed + ": " + call + " answered " + got + ", the model " + want);
+            }
+        }
+
+        /** Mostly from least to greatest, at times just outside, or far. */
+        int number(int least, int greatest) {
+            int kind = random.nextInt(60);
+            if (kind < 4) {
+                return new int[] {least - 1, greatest + 1, Integer.MIN_VALUE, Integer.MAX_VALUE}[kind];
+            }
+            if (kind < 8) {
+                return kind < 6 ? least : greatest;
+            }
+            return greatest < least ? least : least + random.nextInt(greatest - least + 1);
+        }
+
+        int table() {
+            return number(0, m.defs.size() - 1);
+        }
+
+        int key() {
+            return number(0, keys - 1);
+        }
+
+        long wide() {
+            int kind = random.nextInt(20);
+            long small = random.nextInt(spread) - spread / 3;
+            return kind == 0 ? random.nextLong() : kind == 1 ? Long.MAX_VALUE - small : kind == 2 ? Long.MIN_VALUE + small : small;
+        }
+
+        void makeTable() {
+            int t = table();
+            int u = table();
+            switch (random.nextInt(9)) {
+                case 0, 1: due("source", x.source(), m.make(true, new Def(0, NONE, NONE, 0, 0))); break;
+                case 2: {
+                    long low = wide();
+                    long high = random.nextInt(8) == 0 ? wide() : Math.max(low, wide());
+                    due("filter", x.filter(t, low, high), m.make(low <= high, new Def(1, t, NONE, low, high)));
+                    break;
+                }
+                case 3: {
+                    int a = random.nextInt(3) == 0 ? number(-1000, 1000) : number(-3, 3);
+                    int b = number(-1000, 1000);
+                    due("map", x.map(t, a, b), m.make(Math.abs((long) a) <= 1000 && Math.abs((long) b) <= 1000, new Def(2, t, NONE, a, b)));
+                    break;
+                }
+                case 4: {
+                    int kind = number(0, 4);
+                    int g = number(1, 64);
+                    due("fold", x.fold(t, kind, g), m.make(kind >= 0 && kind < 5 && g >= 1 && g <= 64, new Def(3, t, NONE, kind, g)));
+                    break;
+                }
+                case 5: {
+                    int kind = number(0, 1);
+                    due("join", x.join(t, u, kind), u == NONE ? BAD : m.make(kind == 0 || kind == 1, new Def(4, t, u, kind, 0)));
+                    break;
+                }
+                case 6: due("merge", x.merge(t, u), u == NONE ? BAD : m.make(true, new Def(5, t, u, 0, 0))); break;
+                case 7: {
+                    int n = random.nextBoolean() ? number(1, 64) : number(1, 5);
+                    due("best", x.best(t, n), m.make(n >= 1 && n <= 64, new Def(6, t, NONE, n, 0)));
+                    break;
+                }
+                default: due("look", x.look(t, u), u == NONE ? BAD : m.make(true, new Def(7, t, u, 0, 0))); break;
+            }
+        }
+
+        int source() {
+            for (int tries = 0; tries < 5; tries++) {
+                int t = table();
+                if (!m.table(t) || m.defs.get(t).sort == 0) {
+                    return t;
+                }
+            }
+            return table();
+        }
+
+        void alter() {
+            int kind = random.nextInt(60);
+            if (kind < 40) {
+                int t = source();
+                int key = key();
+                long value = wide();
+                due("put(" + t + ", " + key + ", " + value + ")", x.put(t, key, value), m.alter(t, key, value));
+            } else if (kind < 52) {
+                int t = source();
+                int key = key();
+                due("remove(" + t + ", " + key + ")", x.remove(t, key), m.alter(t, key, null));
+            } else if (kind < 55) {
+                due("begin", x.begin(), m.batch == null ? 1 : NO);
+                m.batch = m.batch == null ? new ArrayList<>() : m.batch;
+            } else if (kind < 57) {
+                due("end", x.end(), m.end());
+            } else if (kind < 58) {
+                due("drop", x.drop(), m.drop());
+            } else if (random.nextInt(4) == 0) {
+                due("forget", x.forget(), m.forget());
+            } else if (random.nextInt(20) == 0) {
+                due("clear", x.clear(), m.defs.size());
+                m = new Model();
+            }
+        }
+
+        void ask() {
+            int t = table();
+            int size = m.log.size();
+            switch (random.nextInt(4)) {
+                case 0: {
+                    int from = number(0, size);
+                    int to = random.nextInt(6) == 0 ? number(0, size) : from + random.nextInt(1 + Math.max(0, size - Math.max(from, 0)));
+                    due("net(" + t + ", " + from + ", " + to + ")", x.net(t, from, to), m.net(t, from, to));
+                    break;
+                }
+                case 1: {
+                    int n = number(0, size);
+                    due("copy(" + t + ", " + n + ")", x.copy(t, n), m.copy(t, n));
+                    break;
+                }
+                case 2: {
+                    Change c = m.at(random.nextInt(3), random.nextInt(3));
+                    if (c != null) {
+                        due("take", x.take(c.sort, c.key, c.old, c.now), m.take(c.sort, c.key, c.old, c.now));
+                    }
+                    break;
+                }
+                default: {
+                    int sort = number(0, 2);
+                    int key = key();
+                    Long there = m.copy.get(key);
+                    long old = there == null || random.nextInt(4) == 0 ? wide() : there;
+                    long now = wide();
+                    due("take", x.take(sort, key, old, now), m.take(sort, key, old, now));
+                    break;
+                }
+            }
+        }
+
+        /* What only reads is compared outside the counted calls: a reader keeps nothing, so it can't spoil a run. */
+        void compare(int i) {
+            due("told", x.told(), m.told.size());
+            due("logged", x.logged(), m.log.size());
+            due("count(0)", x.count(0), m.defs.size());
+            due("count(1)", x.count(1), m.batch == null ? NONE : m.batch.size());
+            due("count(2)", x.count(2), m.copy.size());
+            due("count(3)", x.count(3), BAD);
+            int t = table();
+            int what = number(0, 3);
+            due("of", x.of(t, what), m.of(t, what));
+            due("same", x.same(t), !m.table(t) ? BAD : m.rows.get(t).equals(m.copy) ? 1 : 0);
+            int where = number(0, 2);
+            int most = where == 1 ? m.log.size() : 70;
+            int at = number(0, most);
+            due("change", x.change(where, at, what), m.change(where, at, what));
+            due("value", x.value(where, at, what), m.value(where, at, what));
+            if (i % 16 == 0 || i == CALLS - 1) {
+                compareAll();
+            }
+        }
+
+        void compareAll() {
+            for (int t = -2; t < m.defs.size() + 1; t++) {
+                TreeMap<Integer, Long> rows = t == -1 ? m.copy : m.table(t) ? m.rows.get(t) : null;
+                for (int key = -1; key < 65; key++) {
+                    boolean bad = rows == null || key < 0 || key > 63;
+                    due("has(" + t + ", " + key + ")", x.has(t, key), bad ? BAD : rows.containsKey(key) ? 1 : 0);
+                    due("at(" + t + ", " + key + ")", x.at(t, key), bad ? 0 : rows.getOrDefault(key, 0L));
+                }
+            }
+            for (int where = 0; where < 3; where++) {
+                for (int i = 0; m.at(where, i) != null; i++) {
+                    for (int what = 0; what < 3; what++) {
+                        due("change", x.change(where, i, what), m.change(where, i, what));
+                        due("value", x.value(where, i, what), m.value(where, i, what));
+                    }
+                }
+            }
+        }
+    }
+}
