@@ -470,7 +470,6 @@ public final class ChangeRows {
             u = itsU;
             first = itsFirst;
             second = itsSecond;
-            moved = 0L;
         }
 
         void derive(Rows from, Rows beside) {
@@ -645,7 +644,6 @@ public final class ChangeRows {
 
         void close() {
             isOpen = false;
-            size = 0;
         }
 
         /** How many it has gathered then, or FULL. */

@@ -324,7 +324,12 @@ public final class ModelTests {
         long wide() {
             int kind = random.nextInt(20);
             long small = random.nextInt(spread) - spread / 3;
-            return kind == 0 ? random.nextLong() : kind == 1 ? Long.MAX_VALUE - small : kind == 2 ? Long.MIN_VALUE + small : small;
+            switch (kind) {
+                case 0: return random.nextLong();
+                case 1: return Long.MAX_VALUE - small;
+                case 2: return Long.MIN_VALUE + small;
+                default: return small;
+            }
         }
 
         void makeTable() {
@@ -341,27 +346,30 @@ public final class ModelTests {
                 case 3: {
                     int a = random.nextInt(3) == 0 ? number(-1000, 1000) : number(-3, 3);
                     int b = number(-1000, 1000);
-                    due("map", x.map(t, a, b), m.make(Math.abs((long) a) <= 1000 && Math.abs((long) b) <= 1000, new Def(2, t, NONE, a, b)));
+                    boolean good = Math.abs((long) a) <= 1000 && Math.abs((long) b) <= 1000;
+                    due("map", x.map(t, a, b), m.make(good, new Def(2, t, NONE, a, b)));
                     break;
                 }
                 case 4: {
                     int kind = number(0, 4);
                     int g = number(1, 64);
-                    due("fold", x.fold(t, kind, g), m.make(kind >= 0 && kind < 5 && g >= 1 && g <= 64, new Def(3, t, NONE, kind, g)));
+                    boolean good = kind >= 0 && kind < 5 && g >= 1 && g <= 64;
+                    due("fold", x.fold(t, kind, g), m.make(good, new Def(3, t, NONE, kind, g)));
                     break;
                 }
                 case 5: {
                     int kind = number(0, 1);
-                    due("join", x.join(t, u, kind), u == NONE ? BAD : m.make(kind == 0 || kind == 1, new Def(4, t, u, kind, 0)));
+                    boolean good = (kind == 0 || kind == 1) && u != NONE;
+                    due("join", x.join(t, u, kind), m.make(good, new Def(4, t, u, kind, 0)));
                     break;
                 }
-                case 6: due("merge", x.merge(t, u), u == NONE ? BAD : m.make(true, new Def(5, t, u, 0, 0))); break;
+                case 6: due("merge", x.merge(t, u), m.make(u != NONE, new Def(5, t, u, 0, 0))); break;
                 case 7: {
                     int n = random.nextBoolean() ? number(1, 64) : number(1, 5);
                     due("best", x.best(t, n), m.make(n >= 1 && n <= 64, new Def(6, t, NONE, n, 0)));
                     break;
                 }
-                default: due("look", x.look(t, u), u == NONE ? BAD : m.make(true, new Def(7, t, u, 0, 0))); break;
+                default: due("look", x.look(t, u), m.make(u != NONE, new Def(7, t, u, 0, 0))); break;
             }
         }
 
@@ -407,7 +415,8 @@ public final class ModelTests {
             switch (random.nextInt(4)) {
                 case 0: {
                     int from = number(0, size);
-                    int to = random.nextInt(6) == 0 ? number(0, size) : from + random.nextInt(1 + Math.max(0, size - Math.max(from, 0)));
+                    int left = Math.max(0, size - Math.max(from, 0));
+                    int to = random.nextInt(6) == 0 ? number(0, size) : from + random.nextInt(1 + left);
                     due("net(" + t + ", " + from + ", " + to + ")", x.net(t, from, to), m.net(t, from, to));
                     break;
                 }

@@ -288,6 +288,11 @@ public final class PromiseTests {
         rows("one table", x, 4, 1, 20, 2, 40, 3, -2);
         due("u comes", x.put(1, 1, 0), 2);
         rows("both then", x, 2, 1, 10, 2, 25, 3, Long.MIN_VALUE);
+        x.put(0, 0, 1);
+        x.put(0, 63, 2);
+        x.put(1, 0, 3);
+        x.put(1, 63, 4);
+        rows("first and last key", x, 2, 0, 4, 1, 10, 2, 25, 3, Long.MIN_VALUE, 63, 6);
         for (int kind : new int[] {-1, 2, Integer.MIN_VALUE, Integer.MAX_VALUE}) {
             due("kind = " + kind, x.join(0, 1, kind), BAD);
         }
@@ -308,6 +313,9 @@ public final class PromiseTests {
         rows("one table", x, 3, 2, 5, 3, 6);
         due("t's row goes, u's is seen", x.remove(0, 2), 2);
         isChange(x, 0, 1, 2, 1, 2, 0, 5);
+        x.put(0, 0, 1);
+        x.put(1, 63, 2);
+        rows("first and last key", x, 2, 0, 1, 1, 10, 2, 5, 3, 6, 63, 2);
         refusals((y, t) -> y.merge(t, 0));
         refusals((y, t) -> y.merge(0, t));
     }
@@ -327,6 +335,12 @@ public final class PromiseTests {
         for (int n : new int[] {0, -1, 65, Integer.MIN_VALUE, Integer.MAX_VALUE}) {
             due("n = " + n, x.best(0, n), BAD);
         }
+        x = withSource(5, -7);
+        x.best(0, 10);
+        rows("fewer than n", x, 1, 5, -7);
+        x.put(0, 6, 3);
+        x.remove(0, 5);
+        rows("fewer than n again", x, 1, 6, 3);
         x.clear();
         x.source();
         x.best(0, 63);
@@ -413,6 +427,28 @@ public final class PromiseTests {
         x = withFullLog();
         x.begin();
         due("gathered though the log is full", x.put(0, 7, -1), 1);
+        onePutTooMany();
+    }
+
+    /** The log takes its last change, and not one more. */
+    private static void onePutTooMany() {
+        ChangeRows x = withSource();
+        for (int t = 1; t < TABLES - 1; t++) {
+            x.map(0, 1, t);
+        }
+        x.source();
+        for (int i = 0; i < 136; i++) {
+            x.put(0, 7, i);
+        }
+        due("logged before the last ones", x.logged(), 1496);
+        due("too many by far", x.put(0, 7, -1), FULL);
+        for (int i = 0; i < 4; i++) {
+            due("a last one", x.put(11, 63, i), 1);
+        }
+        due("one too many", x.put(11, 63, 4), FULL);
+        rows("nothing changed", x, 11, 63, 3);
+        due("logged", x.logged(), LOG);
+        isChange(x, 1, LOG - 1, 11, 1, 63, 2, 3);
     }
 
     private static void remove() {
@@ -491,12 +527,32 @@ public final class PromiseTests {
         x.put(0, 8, -2);
         due("too many", x.end(), FULL);
         due("it goes on", x.count(1), 2);
+        due("there still is one", x.begin(), NO);
         rows("nothing changed", x, 0, 7, 124);
         due("told as before", x.told(), TABLES);
         x.forget();
         due("after forget", x.end(), 2 * TABLES);
         rows("then", x, 0, 7, -1, 8, -2);
         due("logged then", x.logged(), 2 * TABLES);
+        endOfManyChanges();
+    }
+
+    /** Forty gathered changes of a source change twelve tables at forty keys each. */
+    private static void endOfManyChanges() {
+        ChangeRows x = withTwelve();
+        x.begin();
+        for (int i = 0; i < BATCH; i++) {
+            x.put(0, 63 - i, i);
+        }
+        due("many", x.end(), BATCH * TABLES);
+        due("told", x.told(), BATCH * TABLES);
+        due("logged", x.logged(), BATCH * TABLES);
+        for (int i = 0; i < BATCH * TABLES; i++) {
+            int t = i / BATCH;
+            int key = 64 - BATCH + i % BATCH;
+            isChange(x, 0, i, t, 0, key, 0, 63 - key + t);
+            isChange(x, 1, i, t, 0, key, 0, 63 - key + t);
+        }
     }
 
     private static void drop() {
