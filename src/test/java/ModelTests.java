@@ -269,6 +269,11 @@ public final class ModelTests {
         final int spread;
         final int tables;
         final int keys;
+        /* Of so many calls one is made: some runs seldom end a batch, others seldom begin one or empty the log,
+           so that both get full. */
+        final int ends;
+        final int begins;
+        final int empties;
         ChangeRows x = new ChangeRows();
         Model m = new Model();
 
@@ -276,16 +281,20 @@ public final class ModelTests {
             this.seed = seed;
             random = new Random(seed);
             spread = 1 + random.nextInt(100);
-            tables = random.nextInt(40);
+            tables = random.nextInt(20);
             keys = random.nextInt(4) == 0 ? 6 : 64;
+            int mode = random.nextInt(3);
+            ends = mode == 1 ? 4 : 1;
+            begins = mode == 2 ? 5 : 1;
+            empties = mode == 2 ? 30 : 1;
         }
 
         void go() {
             for (int i = 0; i < CALLS && wrong < 20; i++) {
                 int kind = random.nextInt(100);
-                if (kind < tables || m.defs.isEmpty() && kind < 90) {
+                if (kind < tables || m.defs.size() < i / 2 && m.defs.size() < 12 && kind < 90) {
                     makeTable();
-                } else if (kind < 80) {
+                } else if (kind < 85) {
                     alter();
                 } else {
                     ask();
@@ -335,7 +344,8 @@ public final class ModelTests {
         void makeTable() {
             int t = table();
             int u = table();
-            switch (random.nextInt(9)) {
+            int fewSources = m.defs.isEmpty() || random.nextInt(begins) == 0 ? 0 : 2;
+            switch (fewSources + random.nextInt(9 - fewSources)) {
                 case 0, 1: due("source", x.source(), m.make(true, new Def(0, NONE, NONE, 0, 0))); break;
                 case 2: {
                     long low = wide();
@@ -374,13 +384,14 @@ public final class ModelTests {
         }
 
         int source() {
-            for (int tries = 0; tries < 5; tries++) {
-                int t = table();
-                if (!m.table(t) || m.defs.get(t).sort == 0) {
-                    return t;
+            List<Integer> sources = new ArrayList<>();
+            for (int t = 0; t < m.defs.size(); t++) {
+                if (m.defs.get(t).sort == 0) {
+                    sources.add(t);
                 }
             }
-            return table();
+            boolean any = sources.isEmpty() || random.nextInt(12) == 0;
+            return any ? table() : sources.get(random.nextInt(sources.size()));
         }
 
         void alter() {
@@ -394,16 +405,16 @@ public final class ModelTests {
                 int t = source();
                 int key = key();
                 due("remove(" + t + ", " + key + ")", x.remove(t, key), m.alter(t, key, null));
-            } else if (kind < 55) {
+            } else if (kind < 55 && random.nextInt(begins) == 0) {
                 due("begin", x.begin(), m.batch == null ? 1 : NO);
                 m.batch = m.batch == null ? new ArrayList<>() : m.batch;
-            } else if (kind < 57) {
+            } else if (kind > 54 && kind < 57 && random.nextInt(ends) == 0) {
                 due("end", x.end(), m.end());
-            } else if (kind < 58) {
+            } else if (kind == 57 && random.nextInt(ends) == 0) {
                 due("drop", x.drop(), m.drop());
-            } else if (random.nextInt(4) == 0) {
+            } else if (kind > 57 && random.nextInt(4 * empties) == 0) {
                 due("forget", x.forget(), m.forget());
-            } else if (random.nextInt(20) == 0) {
+            } else if (kind > 57 && random.nextInt(20 * empties) == 0) {
                 due("clear", x.clear(), m.defs.size());
                 m = new Model();
             }
