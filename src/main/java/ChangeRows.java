@@ -518,8 +518,8 @@ public final class ChangeRows {
             switch ((int) first) {
                 case FOLD_COUNT: return soFar + 1L;
                 case FOLD_SUM: return soFar + value;
-                case FOLD_LEAST: return isFirst ? value : Math.min(soFar, value);
-                case FOLD_GREATEST: return isFirst ? value : Math.max(soFar, value);
+                case FOLD_LEAST: return isFirst || value < soFar ? value : soFar;
+                case FOLD_GREATEST: return isFirst || value > soFar ? value : soFar;
                 default: return key;
             }
         }

