@@ -4,7 +4,8 @@ abstract class Checks {
     static final int TABLES = 12, KEYS = 64, LOG = 1500, BATCH = 40;
     static final long MIN = Long.MIN_VALUE, MAX = Long.MAX_VALUE;
 
-    private static final int SHOWN = 200;
+    /* So many faults end the test: more would not tell more. */
+    private static final int SHOWN = 100;
     private static int wrong = 0;
     private static String sentence = "";
 
@@ -16,8 +17,9 @@ abstract class Checks {
     static void due(String what, long got, long want) {
         if (got != want) {
             wrong++;
-            if (wrong <= SHOWN) {
-                System.out.println(sentence + ": " + what + " answered " + got + ", due is " + want);
+            System.out.println(sentence + ": " + what + " answered " + got + ", due is " + want);
+            if (wrong == SHOWN) {
+                finish("");
             }
         }
     }

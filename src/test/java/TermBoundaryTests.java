@@ -24,6 +24,7 @@ public final class TermBoundaryTests extends Checks {
         gone();
         toldByTablesAndKeys();
         toldButOnce();
+        toldAtMost();
         logOf1500();
         baseWhenLogWasEmptyLast();
         baseWhenMade();
@@ -535,6 +536,37 @@ public final class TermBoundaryTests extends Checks {
         x.join(0, 1, 0);
         due("a table that follows by two ways", x.put(0, 5, 1), 3);
         changes(x, 0, one(0, 0, 5, 0, 1), one(1, 0, 5, 0, 1), one(2, 0, 5, 0, 2));
+    }
+
+    /** A batch changes 40 rows of a source, and by one of them every row of eleven tables. */
+    private static void toldAtMost() {
+        about("What a call changes is TOLD, all of it");
+        Used x = withSource();
+        for (int key = 0; key < KEYS; key++) {
+            x.put(0, key, KEYS * key);
+        }
+        x.look(0, 0);
+        for (int t = 2; t < TABLES; t++) {
+            x.map(t - 1, 1, 0);
+        }
+        due("a single put", x.again().put(0, 0, KEYS), 1 + 11 * KEYS);
+        x.begin();
+        for (int key = 0; key < BATCH; key++) {
+            x.put(0, key, -KEYS - KEYS * key);
+        }
+        int most = BATCH + 11 * KEYS;
+        due("end", x.end(), most);
+        due("told", x.told(), most);
+        due("logged", x.logged(), KEYS + most);
+        for (int i = 0; i < most; i++) {
+            int t = i < BATCH ? 0 : 1 + (i - BATCH) / KEYS;
+            int key = i < BATCH ? i : (i - BATCH) % KEYS;
+            long old = t == 0 ? KEYS * key : 0;
+            long now = t == 0 ? -KEYS - KEYS * key : -KEYS;
+            isChange(x, 0, i, t, 1, key, old, now);
+            isChange(x, 1, KEYS + i, t, 1, key, old, now);
+        }
+        due("none behind them", x.change(0, most, 0), BAD);
     }
 
     /** 1499 changes: the log has room for one. A source of its own makes single changes. */
