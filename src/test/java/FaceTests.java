@@ -1,9 +1,13 @@
 import java.lang.management.ManagementFactory;
+import java.lang.reflect.Array;
 import java.lang.reflect.Constructor;
 import java.lang.reflect.Field;
 import java.lang.reflect.Method;
 import java.lang.reflect.Modifier;
 import java.util.Arrays;
+import java.util.Collections;
+import java.util.IdentityHashMap;
+import java.util.Set;
 import java.util.TreeSet;
 
 /** The class has the document's face and no other, and its calls make no objects. */
@@ -18,7 +22,7 @@ public final class FaceTests {
 
     private static int wrong = 0;
 
-    public static void main(String[] args) {
+    public static void main(String[] args) throws IllegalAccessException {
         TreeSet<String> found = new TreeSet<>();
         for (Method m : ChangeRows.class.getDeclaredMethods()) {
             String shown = m.getReturnType() + " " + m.getName() + list(m.getParameterTypes());
@@ -36,6 +40,7 @@ public final class FaceTests {
         int kind = ChangeRows.class.getModifiers();
         check("the class is not public and final", Modifier.isPublic(kind) && Modifier.isFinal(kind));
         callsMakeNothing();
+        aNewObjectMakesFew();
         System.out.println(wrong == 0 ? "the face is as due" : wrong + " faults");
         if (wrong != 0) {
             System.exit(1);
@@ -80,6 +85,38 @@ public final class FaceTests {
             }
         }
         check("450 calls made objects", bean.getCurrentThreadAllocatedBytes() - before < 10000);
+    }
+
+    /** All objects of a run share one room, and a run may make many of this class. */
+    private static void aNewObjectMakesFew() throws IllegalAccessException {
+        Set<Object> reached = Collections.newSetFromMap(new IdentityHashMap<>());
+        long parts = partsOf(new ChangeRows(), reached);
+        check("a new object is " + reached.size() + " objects and arrays", reached.size() <= 130);
+        check("a new object has " + parts + " fields and elements", parts <= 11000);
+    }
+
+    /** How many fields and elements an object has, with those of all that it reaches and that was not reached before. */
+    private static long partsOf(Object object, Set<Object> reached) throws IllegalAccessException {
+        if (object == null || !reached.add(object)) {
+            return 0;
+        }
+        long parts = 0;
+        if (object.getClass().isArray()) {
+            parts += Array.getLength(object);
+            if (object instanceof Object[] elements) {
+                for (Object element : elements) {
+                    parts += partsOf(element, reached);
+                }
+            }
+            return parts;
+        }
+        for (Field f : object.getClass().getDeclaredFields()) {
+            if (!Modifier.isStatic(f.getModifiers())) {
+                f.setAccessible(true);
+                parts += 1 + (f.getType().isPrimitive() ? 0 : partsOf(f.get(object), reached));
+            }
+        }
+        return parts;
     }
 
     private static void check(String fault, boolean holds) {
